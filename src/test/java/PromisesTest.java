@@ -424,6 +424,7 @@ public final class PromisesTest {
         endOfDayOrder();
         coverFromReserves();
         coverFromOwner();
+        fullObject();
         stepsOfVerification();
         manyPayouts();
     }
@@ -511,6 +512,31 @@ public final class PromisesTest {
         due("only as far as it is below 0", net.balance(3), 30);
         due("made good", net.balance(4), 0);
         due("nothing was paid for that", net.paidTo(4), 100);
+    }
+
+    /** All sellers and sales there can be, with a debt that nobody can make good. */
+    private static void fullObject() {
+        Payoutnet net = plain(0, 0, 0, 0, 0, 0, 0, 0);
+        net.verify(7, 2);
+        for (int round = 0; round < 12; round++) {
+            due("sales", net.order(255, 0, 80), 8);
+        }
+        due("the last sales", net.order(0b1000_0111, 0, 4), 4);
+        due("seven others keep theirs", net.pass(1), 1);
+        due("paid", net.paidTo(7), 121);
+        for (int round = 0; round < 12; round++) {
+            for (int seller = 0; seller < 8; seller++) {
+                net.refund(round * 8 + seller, 10, false);
+            }
+        }
+        due("three have a cent each", net.balance(2), 1);
+        due("nothing to pay", net.pass(1), 0);
+        due("a cent is given too", net.balance(0), 0);
+        due("a cent is given too", net.balance(2), 0);
+        due("a debt that stays", net.balance(7), -117);
+        due("nothing to pay", net.pass(7), 0);
+        due("a debt that stays", net.balance(7), -117);
+        due("the last seller's reserve", net.reserve(7), 0);
     }
 
     private static void stepsOfVerification() {
@@ -684,6 +710,19 @@ public final class PromisesTest {
         due("given", net.balanceByEntries(0), 0);
         due("failed", net.fail(0), 90);
         due("failed", net.balanceByEntries(1), 90);
+        manyEntries();
+    }
+
+    private static void manyEntries() {
+        Payoutnet net = plain(0, 1);
+        net.sell(0, 0, 1000000);
+        net.sell(1, 0, 1000000);
+        for (int call = 1; call <= 240; call++) {
+            net.refund(0, 3, false);
+            net.refund(1, 2, false);
+            due("of the first", net.balanceByEntries(0), 1000000 - 3 * call);
+            due("of the second", net.balanceByEntries(1), 1000000 - 2 * call);
+        }
     }
 
     private static void sumsOfThePlace() {
