@@ -1,8 +1,8 @@
 /** Calls with any arguments, far more of them than the document promises: none may throw what it does not say. */
 public final class WildTest {
     private static final int[] NUMBERS = {
-        Integer.MIN_VALUE, Integer.MIN_VALUE + 1, -1000001, -1, 0, 1, 2, 3, 4, 5, 6, 7, 8, 9, 31, 32, 33, 63, 64, 99, 100,
-        101, 180, 181, 255, 256, 500, 501, 999, 1000, 1001, 1023, 1024, 5000, 5001, 1000000, 1000001,
+        Integer.MIN_VALUE, Integer.MIN_VALUE + 1, -1000001, -1, 0, 1, 2, 3, 4, 5, 6, 7, 8, 9, 31, 32, 33, 63, 64, 99,
+        100, 101, 180, 181, 255, 256, 500, 501, 999, 1000, 1001, 1023, 1024, 5000, 5001, 1000000, 1000001,
         Integer.MAX_VALUE - 1, Integer.MAX_VALUE};
 
     private static int wrong = 0;
