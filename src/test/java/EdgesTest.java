@@ -319,6 +319,10 @@ public final class EdgesTest {
         due("no fee back", without.refund(0, 990, false), 900 - 990);
         due("fee back of the rest alone", without.refund(0, 10, true), 900 - 1000 + 1);
         due("fees", without.fees(), 99);
+        Payoutnet kept = sold(999, 500, 1000);
+        due("no fee back", kept.refund(0, 500, false), -500 + 250);
+        due("what did not come back does not count", kept.refund(0, 500, true), -1000 + 500 + 499);
+        due("fees", kept.fees(), 1);
     }
 
     // ---- Terms: the end of a day
@@ -486,6 +490,65 @@ public final class EdgesTest {
         due("the lower is made good", two.balance(0), 0);
         due("the higher gets what is left", two.balance(2), -5);
         due("a seller below 0 gives nothing, and none is lost", two.balance(1), 0);
+    }
+
+    /** One seller 100 below 0 and one of the same owner with 300, on a day that is the weekday of both. */
+    private static Payoutnet payday(int debtor, int giver) {
+        Payoutnet net = plain(2, 2, 2);
+        bringBelow(net, debtor, 100, 0);
+        net.verify(debtor, 2);
+        net.verify(giver, 2);
+        net.setPayouts(giver, 1, 250);
+        net.setPayouts(debtor, 1, 1);
+        net.sell(giver, 0, 300);
+        return net;
+    }
+
+    private static void stepsOfOneDay() {
+        says("The end of a day. 1. .. 2. .. 3. .. 4. ..");
+        for (int debtor = 0; debtor < 3; debtor++) {
+            for (int giver = 0; giver < 3; giver++) {
+                if (giver != debtor) {
+                    Payoutnet below = payday(debtor, giver);
+                    dueEach("what is left is below the least sum, giver", below.pass(1), 0, giver);
+                    dueEach("made good first, debtor", below.balance(debtor), 0, debtor);
+                    dueEach("what is left, giver", below.balance(giver), 200, giver);
+                    Payoutnet least = payday(debtor, giver);
+                    least.setPayouts(giver, 1, 200);
+                    dueEach("what is left is the least sum, giver", least.pass(1), 1, giver);
+                    dueEach("only that is paid out, giver", least.payout(1), 200, giver);
+                    dueEach("made good first, debtor", least.balance(debtor), 0, debtor);
+                }
+            }
+        }
+
+        Payoutnet same = plain(0, 1);
+        bringBelow(same, 0, 100, 0);
+        same.verify(0, 2);
+        same.setPayouts(0, 2, 1);
+        same.setReserve(0, 1000, 1);
+        same.sell(0, 0, 90);
+        same.setReserve(0, 1000, 2);
+        same.sell(0, 0, 60);
+        same.pass(1);
+        due("made good on day 1 by both reserves", same.reserve(0), 50);
+        due("what is released on day 2 does not go out", same.pass(1), 0);
+        due("held until day 3", same.reserve(0), 50);
+        same.setPayouts(0, 3, 1);
+        due("what is released on day 3 goes out on it", same.pass(1), 1);
+        due("whole", same.payout(1), 50);
+
+        Payoutnet released = plain(3, 3);
+        bringBelow(released, 1, 100, 0);
+        released.setReserve(0, 1000, 1);
+        released.sell(0, 0, 130);
+        released.verify(0, 2);
+        released.setPayouts(0, 2, 1);
+        due("a reserve of the giver is not touched", released.pass(1), 0);
+        due("still below 0", released.balance(1), -100);
+        due("what is released is given, and the rest goes out", released.pass(1), 1);
+        due("the rest", released.payout(1), 30);
+        due("made good", released.balance(1), 0);
     }
 
     private static void weekdays() {
@@ -1016,6 +1079,7 @@ public final class EdgesTest {
         releasedReserves();
         reservesMakeGood();
         othersMakeGood();
+        stepsOfOneDay();
         weekdays();
         leastSums();
         steps();

@@ -6,9 +6,13 @@ import java.lang.reflect.Modifier;
 import java.nio.charset.StandardCharsets;
 import java.nio.file.Files;
 import java.nio.file.Path;
+import java.util.ArrayList;
 import java.util.Arrays;
+import java.util.List;
 import java.util.Set;
 import java.util.TreeSet;
+import java.util.regex.Matcher;
+import java.util.regex.Pattern;
 
 /** The class shows the document's face and nothing more, and its text keeps to what LANGUAGE.md forbids by words. */
 public final class FaceTest {
@@ -33,9 +37,17 @@ public final class FaceTest {
         "int balanceByEntries(int) " + INDEX, "int reserve(int) " + INDEX, "int paidTo(int) " + INDEX,
         "int received()", "int refunded()", "int fees()", "int taxes()"};
 
+    private static final String[] SECTIONS = {
+        "sellers and rules: addSeller verify setPayouts setReserve setShare setTax",
+        "sales: sell order refund",
+        "days and payouts: pass fail today payouts payout sellerOf",
+        "sums: balance balanceByEntries reserve paidTo received refunded fees taxes"};
+
     private static final String[] FORBIDDEN = {
         "->", "::", "finally", "synchronized", "assert", "package ", "Float.", "Double.", "Exact(", "System.out",
         "System.nanoTime", "System.currentTimeMillis", "Random", "catch", "equals", "hashCode", "toString", "Object"};
+
+    private static final Pattern CALL = Pattern.compile("^    public (?:int|void) (\\w+)\\(");
 
     private static int wrong = 0;
 
@@ -102,9 +114,63 @@ public final class FaceTest {
         }
     }
 
-    private static void words() throws IOException {
+    private static void constants() throws NoSuchFieldException {
+        Field none = Payoutnet.class.getDeclaredField("NONE");
+        int asked = Modifier.PUBLIC | Modifier.STATIC | Modifier.FINAL;
+        if (none.getModifiers() != asked || none.getType() != int.class || Payoutnet.NONE != -1) {
+            fault("NONE is not public static final int, -1");
+        }
+    }
+
+    /** LANGUAGE.md, rule 11: how many classes, fields and parameters there may be. */
+    private static void sizes() {
+        List<Class<?>> classes = new ArrayList<>(Arrays.asList(Payoutnet.class.getDeclaredClasses()));
+        classes.add(Payoutnet.class);
+        if (classes.size() > 12) {
+            fault("there are " + classes.size() + " classes");
+        }
+        for (Class<?> one : classes) {
+            int fields = 0;
+            for (Field field : one.getDeclaredFields()) {
+                fields += Modifier.isStatic(field.getModifiers()) ? 0 : 1;
+            }
+            if (fields > 20) {
+                fault(one.getSimpleName() + " has " + fields + " fields");
+            }
+            for (Method method : one.getDeclaredMethods()) {
+                if (method.getParameterCount() > 7) {
+                    fault("too many parameters: " + method);
+                }
+            }
+        }
+    }
+
+    private static String textOfTheClass() throws IOException {
         Path file = Path.of(System.getProperty("project.root", "."), "src/main/java/Payoutnet.java");
-        String text = new String(Files.readAllBytes(file), StandardCharsets.UTF_8);
+        return new String(Files.readAllBytes(file), StandardCharsets.UTF_8);
+    }
+
+    /** The calls stand in the document's order, ahead of them what the interface says there. */
+    private static void sections() throws IOException {
+        List<String> sections = new ArrayList<>();
+        for (String row : textOfTheClass().split("\n")) {
+            Matcher call = CALL.matcher(row);
+            int last = sections.size() - 1;
+            if (row.startsWith("    // ---- ")) {
+                sections.add(row.substring(12) + ":");
+            } else if (call.find() && last >= 0) {
+                sections.set(last, sections.get(last) + " " + call.group(1));
+            }
+        }
+        // the sections of the private functions have no call
+        sections.removeIf(section -> section.endsWith(":"));
+        if (!sections.equals(Arrays.asList(SECTIONS))) {
+            fault("the sections are " + sections);
+        }
+    }
+
+    private static void words() throws IOException {
+        String text = textOfTheClass();
         int line = 0;
         for (String row : text.split("\n")) {
             line++;
@@ -122,8 +188,11 @@ public final class FaceTest {
         }
     }
 
-    public static void main(String[] args) throws IOException {
+    public static void main(String[] args) throws IOException, NoSuchFieldException {
         members();
+        constants();
+        sizes();
+        sections();
         words();
         System.out.println(wrong == 0 ? "the face is the document's" : wrong + " faults");
         if (wrong != 0) {
